@@ -158,6 +158,15 @@ final class PromiseTest {
         errorAt("N 2000", 5);
         errorAt("NEbN 2000000", 8);
         errorAt("NNNNNNNNNNNN", 2);
+        TraverseBoard x = new TraverseBoard();
+        write(x, "N 150");
+        x.clearBuffer();
+        write(x, "N 1");
+        check.due("errorPosition() of N 1 after N 150", x.errorPosition(), 3);
+        check.due("addFromBuffer() of N 1 after N 150", x.addFromBuffer(), 0);
+        check.due("speedOf(0)", x.speedOf(0), 1);
+        write(x, "N");
+        check.due("errorPosition() of N after N 1", x.errorPosition(), 1);
     }
 
     private static void errorAt(String text, int due) {
@@ -774,6 +783,11 @@ final class PromiseTest {
         check.due("digest() of corrected positions", x.digest(), hash(2, WRONG_STATE, WRONG_STATE, -1,
             WRONG_STATE, WRONG_STATE, 0, 24, 2, 1, 0, 0, 0, 0, 1, 0, 0, 0, 0, 1, 10, 20, 10, 20,
             22, 6, 9002, 0));
+        TraverseBoard shorter = new TraverseBoard();
+        shorter.add(0, 1);
+        shorter.lose(0);
+        shorter.removeLast();
+        check.due("digest() without the lost peg", shorter.digest(), hash(0, 0, 0, 1, 0, 0, 0, 0, 0, NOTHING, 0));
     }
 
     private static long hash(long... values) {
