@@ -2,8 +2,14 @@ import java.util.Random;
 
 /** Random calls, put to the class and to the model alike; the digest after each call shows the whole state. */
 final class RandomRunsTest {
-    private static final int RUNS = 600;
-    private static final int CALLS = 256;
+    private static final int RUNS = 1200;
+
+    /** The document promises nothing of an object behind these. */
+    private static final int MAX_CALLS = 512;
+
+    /** A text of the longest name and speed to an emptied buffer, its peg, and the digest. */
+    private static final int MAX_CALLS_OF_STEP = 12;
+
     private static final int[] ODD_NUMBERS = {Integer.MIN_VALUE, -200000001, -3, -2, -1, 0, 1, 2, 3, 31, 32, 47, 48, 49,
         50, 51, 127, 200, 201, 200000001, Integer.MAX_VALUE};
 
@@ -12,6 +18,7 @@ final class RandomRunsTest {
     private final TraverseBoard board = new TraverseBoard();
     private final Model model = new Model();
     private final boolean growing;
+    private int calls;
 
     private RandomRunsTest(Check check, int seed) {
         this.check = check;
@@ -29,9 +36,12 @@ final class RandomRunsTest {
     }
 
     private void run() {
-        for (int call = 0; call < CALLS; call++) {
+        for (int pegs = growing ? random.nextInt(50) : 0; pegs > 0; pegs--) {
+            add();
+        }
+        while (calls + MAX_CALLS_OF_STEP <= MAX_CALLS) {
             step();
-            check.due("digest()", board.digest(), model.digest());
+            due("digest()", board.digest(), model.digest());
         }
     }
 
@@ -149,6 +159,7 @@ final class RandomRunsTest {
     }
 
     private void due(String call, long got, long want) {
+        calls++;
         check.due(call, got, want);
     }
 }
