@@ -7,8 +7,11 @@ import java.nio.file.Path;
 import java.util.ArrayList;
 import java.util.HashSet;
 import java.util.List;
+import java.util.Map;
 import java.util.Set;
+import java.util.TreeMap;
 import java.util.TreeSet;
+import java.util.regex.Matcher;
 import java.util.regex.Pattern;
 
 /** The document's face, member by member, and the rules of LANGUAGE.md that a reader of the class can count. */
@@ -26,6 +29,10 @@ final class FaceTest {
     private static final List<String> RULED_OUT = List.of("\\bthrow\\b", "\\btry\\b", "\\bcatch\\b", "\\bsynchronized\\b",
         "\\bassert\\b", "\\bimport\\b", "\\bpackage\\b", "->", "::", "\\bprotected\\b", "\\bstatic \\{", "\\bhashCode\\b",
         "\\btoString\\b", "Exact\\b", "\\bSystem\\.(?!arraycopy)", "\\bRandom\\b", "\\bThread\\b", "[^\\x00-\\x7f]");
+
+    private static final int DEEPEST = 8;
+    private static final Pattern METHOD = Pattern.compile("(?ms)^    (?:public|private) [^=;{]*?(\\w+)\\([^)]*\\) \\{$(.*?)^    }$");
+    private static final Pattern CALL = Pattern.compile("\\b(?!if\\b|for\\b|while\\b|return\\b)(\\w+)\\(");
 
     private static final Check check = new Check("FaceTest");
 
@@ -108,5 +115,36 @@ final class FaceTest {
         for (String ruledOut : RULED_OUT) {
             check.holds("the source has " + ruledOut, !Pattern.compile(ruledOut).matcher(text).find());
         }
+        Map<String, String> bodies = bodies(text);
+        check.due("the methods and the constructor that were read", bodies.size(), TraverseBoard.class.getDeclaredMethods().length + 1);
+        for (String name : bodies.keySet()) {
+            check.holds(name + " has more than sixty lines", bodies.get(name).lines().count() <= 60);
+            int deep = depth(name, bodies, 0);
+            check.holds("from " + name + " calls go " + deep + " deep", deep <= DEEPEST);
+        }
+    }
+
+    /** The methods and the constructor by their names; no two of them share one. */
+    private static Map<String, String> bodies(String text) {
+        Map<String, String> bodies = new TreeMap<>();
+        Matcher matcher = METHOD.matcher(text);
+        while (matcher.find()) {
+            String before = bodies.put(matcher.group(1), matcher.group(2));
+            check.holds("two methods are called " + matcher.group(1), before == null);
+        }
+        return bodies;
+    }
+
+    /** How many calls stand open at once, this one and one of the library included. */
+    private static int depth(String name, Map<String, String> bodies, int above) {
+        if (!bodies.containsKey(name) || above > DEEPEST) {
+            return 1;
+        }
+        int deepest = 0;
+        Matcher matcher = CALL.matcher(bodies.get(name));
+        while (matcher.find()) {
+            deepest = Math.max(deepest, depth(matcher.group(1), bodies, above + 1));
+        }
+        return 1 + deepest;
     }
 }

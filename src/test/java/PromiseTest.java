@@ -48,7 +48,6 @@ final class PromiseTest {
         bearing();
         findLost();
         digest();
-        examples();
         check.end();
     }
 
@@ -796,52 +795,6 @@ final class PromiseTest {
             hash = 31 * hash + value;
         }
         return hash;
-    }
-
-    private static void examples() {
-        check.about("example 1");
-        TraverseBoard x = new TraverseBoard();
-        check.due("add(8, 100)", x.add(8, 100), 0);
-        check.due("add(0, 50)", x.add(0, 50), 1);
-        check.due("setFix(2, 500000, 1000000)", x.setFix(2, 500000, 1000000), 2);
-        check.due("correctedNorth(1)", x.correctedNorth(1), 0);
-        check.due("correctedEast(1)", x.correctedEast(1), 1000000);
-        check.due("reckonedEast(1)", x.reckonedEast(1), 1000000);
-        check.due("setFix(2, 600000, 980000)", x.setFix(2, 600000, 980000), 2);
-        check.due("correctedNorth(1)", x.correctedNorth(1), 50000);
-        check.due("correctedEast(1)", x.correctedEast(1), 990000);
-        check.due("distance(0, 2)", x.distance(0, 2), 1149086);
-        check.due("bearing(0, 2)", x.bearing(0, 2), 5);
-        check.about("example 2");
-        x = new TraverseBoard();
-        write(x, "NEbN 20");
-        check.due("errorPosition()", x.errorPosition(), 7);
-        check.due("addFromBuffer()", x.addFromBuffer(), 0);
-        check.due("pointOf(0)", x.pointOf(0), 3);
-        check.due("speedOf(0)", x.speedOf(0), 20);
-        check.due("setLeeway(0, 1)", x.setLeeway(0, 1), 0);
-        check.due("reckonedNorth(1)", x.reckonedNorth(1), 141420);
-        check.about("example 3");
-        x = new TraverseBoard();
-        check.due("add(4, 100)", x.add(4, 100), 0);
-        check.due("add(4, 100)", x.add(4, 100), 1);
-        check.due("lose(1)", x.lose(1), 1);
-        check.due("findLost(1)", x.findLost(1), NOTHING);
-        check.due("setFix(2, 1414200, 1414200)", x.setFix(2, 1414200, 1414200), 2);
-        check.due("findLost(1)", x.findLost(1), 4100);
-        check.due("findLost(0)", x.findLost(0), WRONG_STATE);
-        check.due("replace(1, 4, 100)", x.replace(1, 4, 100), 1);
-        check.due("findLost(1)", x.findLost(1), WRONG_STATE);
-        check.due("pointOf(2)", x.pointOf(2), NO_SUCH_PEG);
-        check.about("example 4");
-        x = new TraverseBoard();
-        write(x, "EbE");
-        check.due("errorPosition()", x.errorPosition(), 2);
-        check.due("clearBuffer()", x.clearBuffer(), 3);
-        write(x, "S 201");
-        check.due("errorPosition()", x.errorPosition(), 4);
-        check.due("addFromBuffer()", x.addFromBuffer(), INVALID_PEG);
-        check.due("removeLast()", x.removeLast(), NOTHING);
     }
 
     private static void positions(TraverseBoard x, int moment, long reckonedNorth, long reckonedEast,
